@@ -161,6 +161,13 @@ public final class LineTest {
         x.begin(0, -9_000);
         x.piece(0, 10_000, 37);
         Check.same("too much need for the widest", x.lay(0, 0), -2);
+        // 123 x 123 x 31 is 468,999, one less than 1,000 x 7 x 67.
+        StormPipes y = new StormPipes(1);
+        y.list(123, 1);
+        y.begin(0, -3_000);
+        y.piece(0, 7, 67);
+        Check.same("need", y.lay(0, 0), 7);
+        Check.same("one short is short", y.laid(0, 1), 32);
     }
 
     private static void promise20Widths() {
