@@ -7,17 +7,26 @@ final class Check {
     }
 
     static void same(String what, long got, long due) {
-        done++;
-        if (got != due) {
-            wrong++;
-            if (wrong <= 40) {
-                System.out.println(what + " answered " + got + ", due is " + due);
-            }
-        }
+        count(got == due, what, String.valueOf(got), String.valueOf(due));
     }
 
     static void same(String what, boolean got, boolean due) {
-        same(what, got ? 1 : 0, due ? 1 : 0);
+        count(got == due, what, String.valueOf(got), String.valueOf(due));
+    }
+
+    static void same(String what, String got, String due) {
+        count(got.equals(due), what, got, due);
+    }
+
+    private static void count(boolean isSame, String what, String got, String due) {
+        done++;
+        if (isSame) {
+            return;
+        }
+        wrong++;
+        if (wrong <= 40) {
+            System.out.println(what + " answered " + got + ", due is " + due);
+        }
     }
 
     static void end() {
