@@ -40,6 +40,7 @@ public final class SecondBoundsTest {
         runSeconds();
         runUntilTheEnd();
         runWithoutNodes();
+        toldSoFar();
         toldNoneSuch();
         flowNoneSuch();
         flowInTheLastSecond();
@@ -830,6 +831,31 @@ public final class SecondBoundsTest {
             Bounds.refusesBeyond("told's what", busy(), 0, 3, (x, v) -> x.told(of, v), NOT_TOLD);
         }
         Bounds.changesNothing("told without nodes", () -> new StormPipes(9), x -> x.told(0, 0), NOT_TOLD);
+    }
+
+    // "2 litres that were more than full so far, 3 litres that went out by gates there."
+    private static void toldSoFar() {
+        StormPipes x = new StormPipes(2);
+        x.node(10, 0, 1);
+        x.node(10, 0, 1);
+        x.gate(0, 8, 1);
+        x.gate(0, 8, 2);
+        Bounds.rainLitres(x, 0, 9);
+        // 9: 1 out; 17: 3 out, 4 over; then 19 each second: 3 out, 6 over.
+        long[][] seconds = {{8, 0, 1}, {10, 4, 4}, {10, 10, 7}, {10, 16, 10}};
+        for (long[] second : seconds) {
+            x.run(1);
+            Check.same("litres", x.told(0, 0), second[0]);
+            Check.same("more than full so far", x.told(0, 2), second[1]);
+            Check.same("by gates so far", x.told(0, 3), second[2]);
+        }
+        x.rain(0, 0);
+        x.run(2);
+        Check.same("litres in the dry", x.told(0, 0), 8);
+        Check.same("more than full so far, in the dry", x.told(0, 2), 16);
+        Check.same("by gates so far, in the dry", x.told(0, 3), 12);
+        Check.same("another node was never more than full", x.told(1, 2), 0);
+        Check.same("another node has no gates", x.told(1, 3), 0);
     }
 
     // Promise 12: "- 2^60: none such."
