@@ -42,18 +42,31 @@ public final class FaceTest {
             Check.same(method + " is public or private", isPublic || isPrivate, true);
             if (isPublic) {
                 seen.add(shape(method));
+            } else {
+                Check.same(method + " has a name of its own", names().contains(method.getName()), false);
             }
         }
         Check.same("the methods of the face: " + seen, seen.equals(new TreeSet<>(Arrays.asList(FACE))), true);
+        Check.same("constructors", type.getDeclaredConstructors().length, 1);
         for (Constructor<?> constructor : type.getDeclaredConstructors()) {
             boolean isDue = Modifier.isPublic(constructor.getModifiers())
                 && Arrays.equals(constructor.getParameterTypes(), new Class<?>[] {int.class});
             Check.same(constructor.toString(), isDue, true);
         }
         for (Field field : type.getDeclaredFields()) {
-            boolean isDue = Modifier.isPrivate(field.getModifiers()) || field.getName().equals("BAD");
-            Check.same(field.toString(), isDue, true);
+            boolean isBad = field.toString().equals("public static final int StormPipes.BAD");
+            Check.same(field.toString(), isBad || Modifier.isPrivate(field.getModifiers()), true);
+            boolean isState = Modifier.isStatic(field.getModifiers()) && !Modifier.isFinal(field.getModifiers());
+            Check.same(field + " is no static state", isState, false);
         }
+    }
+
+    private static Set<String> names() {
+        Set<String> names = new TreeSet<>();
+        for (String shape : FACE) {
+            names.add(shape.substring(shape.indexOf(' ') + 1, shape.indexOf('(')));
+        }
+        return names;
     }
 
     private static String shape(Method method) {
@@ -66,10 +79,7 @@ public final class FaceTest {
     }
 
     private static void nestedClasses() {
-        Set<String> names = new TreeSet<>();
-        for (String shape : FACE) {
-            names.add(shape.substring(shape.indexOf(' ') + 1, shape.indexOf('(')));
-        }
+        Set<String> names = names();
         Class<?>[] nested = StormPipes.class.getDeclaredClasses();
         Check.same("some twelve classes at most", nested.length <= 11, true);
         for (Class<?> type : nested) {
